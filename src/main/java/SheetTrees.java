@@ -314,10 +314,10 @@ public final class SheetTrees {
         for (int i = 0; i < layout.pieceCount && i < layout.pieces.length; i++) {
             int piece = layout.pieces[i];
             int kind = Piece.field(piece, Piece.KIND);
-            if (kind < partCount && kind < parts.length) {
+            if (kind == WASTE) {
+                keepRest(piece);
+            } else if (kind < parts.length) {
                 takePart(made, parts[kind], piece);
-            } else if (Piece.isAtLeast(piece, least) && restCount < restPieces.length) {
-                restPieces[restCount++] = piece;
             }
         }
         made.takenCount = takenCount - made.takenFrom;
@@ -329,6 +329,12 @@ public final class SheetTrees {
             part.left--;
             made.takenArea += part.area();
             takenPieces[takenCount++] = piece;
+        }
+    }
+
+    private void keepRest(int piece) {
+        if (Piece.isAtLeast(piece, least) && restCount < restPieces.length) {
+            restPieces[restCount++] = piece;
         }
     }
 

@@ -321,7 +321,8 @@ public final class SheetTreesAgainstModel {
                 tree.value = tree.first.value;
                 tree.cuts = tree.first.cuts + 1;
                 if (second > 0) {
-                    tree.second = way == 0 ? best(second, h, 0, s, wanted, known) : best(w, second, 1, s, wanted, known);
+                    tree.second = way == 0 ? best(second, h, 0, s, wanted, known)
+                            : best(w, second, 1, s, wanted, known);
                     tree.value += tree.second.value;
                     tree.cuts += tree.second.cuts;
                 }
