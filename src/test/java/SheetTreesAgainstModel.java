@@ -1,7 +1,5 @@
 import java.util.ArrayList;
-import java.util.HashMap;
 import java.util.List;
-import java.util.Map;
 import java.util.Random;
 
 /**
@@ -9,19 +7,36 @@ import java.util.Random;
  * document's words: trees are objects, made anew for every sheet and compared as texts.
  */
 public final class SheetTreesAgainstModel {
-    private static final int RUNS = 400;
-    private static final int CALLS = 40;
+    private static final int OBJECTS = 1500;
+    // What an object answers beyond these is free.
+    private static final int CALLS = 512;
+    private static final int WRONG_TO_SHOW = 20;
 
     private static int wrong = 0;
     private static long compared = 0;
 
-    private interface Call {
-        long answer();
+    private final Random random;
+    private final int longest;
+    private final SheetTrees real;
+    private final Model model;
+    private final StringBuilder told = new StringBuilder();
+    private int calls = 0;
+
+    private SheetTreesAgainstModel(int seed) {
+        random = new Random(seed);
+        longest = seed % 4 == 0 ? 16 : seed % 4 == 1 ? 5 : 10;
+        int kerf = random.nextInt(8) - 2;
+        int stages = random.nextInt(7) - 1;
+        int least = random.nextInt(3) == 0 ? random.nextInt(20) - 1 : random.nextInt(5);
+        real = new SheetTrees(kerf, stages, least);
+        model = new Model(kerf, stages, least);
+        told.append("object ").append(seed).append(": new(").append(kerf).append(", ").append(stages)
+                .append(", ").append(least).append(")");
     }
 
     public static void main(String[] args) {
-        for (int run = 0; run < RUNS && wrong < 20; run++) {
-            oneRun(run);
+        for (int seed = 0; seed < OBJECTS && wrong < WRONG_TO_SHOW; seed++) {
+            new SheetTreesAgainstModel(seed).play();
         }
         System.out.println(compared + " answers compared, " + wrong + " wrong");
         if (wrong != 0 || compared == 0) {
@@ -29,127 +44,137 @@ public final class SheetTreesAgainstModel {
         }
     }
 
-    private static void oneRun(int run) {
-        Random random = new Random(run);
-        int kerf = random.nextInt(6) - 1;
-        int stages = random.nextInt(5);
-        int least = random.nextInt(6);
-        SheetTrees real = new SheetTrees(kerf, stages, least);
-        Model model = new Model(kerf, stages, least);
-        int longest = run % 4 == 0 ? 16 : run % 4 == 1 ? 5 : 10;
-        String where = "run " + run + " new(" + kerf + ", " + stages + ", " + least + ")";
-        for (int call = 0; call < CALLS && wrong < 20; call++) {
-            where = oneCall(where, random, longest, real, model);
-        }
-    }
-
-    private static String oneCall(String where, Random random, int longest, SheetTrees real, Model model) {
-        int a = side(random, longest);
-        int b = side(random, longest);
-        switch (random.nextInt(8)) {
-            case 0: case 1: {
-                int cents = random.nextInt(30) == 0 ? 0 : 1 + random.nextInt(50);
-                int stock = random.nextInt(30) == 0 ? 21 : random.nextInt(7);
-                return compare(where, "sheet(" + a + ", " + b + ", " + cents + ", " + stock + ")",
-                        () -> real.sheet(a, b, cents, stock), () -> model.sheet(a, b, cents, stock));
+    private void play() {
+        while (calls < CALLS && wrong < WRONG_TO_SHOW) {
+            for (int i = random.nextInt(7); i > 0; i--) {
+                tell();
             }
-            case 2: case 3: {
-                int w = 1 + a / 2;
-                int h = 1 + b / 2;
-                int count = count(random);
-                boolean turns = random.nextBoolean();
-                return compare(where, "part(" + w + ", " + h + ", " + count + ", " + turns + ")",
-                        () -> real.part(w, h, count, turns), () -> model.part(w, h, count, turns));
+            if (random.nextInt(5) != 0) {
+                compare("run()", real::run, model::run);
             }
-            case 4: {
-                int part = random.nextInt(10) - 1;
-                int count = count(random);
-                return compare(where, "count(" + part + ", " + count + ")",
-                        () -> real.count(part, count), () -> model.count(part, count));
-            }
-            case 5: {
-                int way = random.nextInt(20) == 0 ? random.nextInt(4) - 1 : random.nextInt(2);
-                int s = random.nextInt(20) == 0 ? random.nextInt(6) - 1 : random.nextInt(4);
-                return compare(where, "worth(" + a + ", " + b + ", " + way + ", " + s + ")",
-                        () -> real.worth(a, b, way, s), () -> model.worth(a, b, way, s));
-            }
-            default: {
-                if (random.nextInt(4) != 0) {
-                    where = compare(where, "run()", real::run, model::run);
-                }
-                compareAll(where, real, model);
-                return where;
+            for (int i = 10 + random.nextInt(60); i > 0; i--) {
+                ask();
             }
         }
     }
 
-    private static int side(Random random, int longest) {
-        return random.nextInt(40) == 0 ? random.nextInt(2) * 17 : 1 + random.nextInt(longest);
-    }
-
-    private static int count(Random random) {
-        return random.nextInt(30) == 0 ? random.nextInt(2) * 52 - 1 : random.nextInt(random.nextBoolean() ? 5 : 51);
-    }
-
-    /** Every question that can be asked of a run, and those just beyond. */
-    private static void compareAll(String where, SheetTrees real, Model model) {
-        compare(where, "bound()", real::bound, model::bound);
-        for (int i = -1; i <= 3; i++) {
-            int what = i;
-            compare(where, "all(" + what + ")", () -> real.all(what), () -> model.all(what));
-        }
-        for (int i = -1; i <= 8; i++) {
-            int part = i;
-            compare(where, "left(" + part + ")", () -> real.left(part), () -> model.left(part));
-        }
-        for (int i = -1; i <= model.cuts.size() && i <= 20; i++) {
-            compareCutSheet(where, i, real, model);
+    private void tell() {
+        int pick = random.nextInt(5);
+        if (pick < 2) {
+            tellSheet();
+        } else if (pick < 4) {
+            tellPart();
+        } else {
+            int part = oneOf(model.parts.size());
+            int count = count();
+            compare("count(" + part + ", " + count + ")", () -> real.count(part, count), () -> model.count(part, count));
         }
     }
 
-    private static void compareCutSheet(String where, int sheet, SheetTrees real, Model model) {
-        for (int i = -1; i <= 8; i++) {
-            int what = i;
-            compare(where, "cut(" + sheet + ", " + what + ")",
-                    () -> real.cut(sheet, what), () -> model.cut(sheet, what));
-        }
-        boolean known = sheet >= 0 && sheet < model.cuts.size();
-        int takenThere = known ? model.cuts.get(sheet).taken.size() : 0;
-        int restsThere = known ? model.cuts.get(sheet).rests.size() : 0;
-        for (int i = -1; i <= takenThere; i++) {
-            for (int j = -1; j <= 5; j++) {
-                int k = i;
-                int what = j;
-                compare(where, "taken(" + sheet + ", " + k + ", " + what + ")",
-                        () -> real.taken(sheet, k, what), () -> model.taken(sheet, k, what));
-            }
-        }
-        for (int i = -1; i <= restsThere; i++) {
-            for (int j = -1; j <= 4; j++) {
-                int k = i;
-                int what = j;
-                compare(where, "rest(" + sheet + ", " + k + ", " + what + ")",
-                        () -> real.rest(sheet, k, what), () -> model.rest(sheet, k, what));
-            }
+    private void tellSheet() {
+        int width = side(longest);
+        int height = side(longest);
+        int cents = rarely() ? edge(1, 10000) : 1 + random.nextInt(random.nextBoolean() ? 5 : 10000);
+        int stock = rarely() ? edge(0, 20) : random.nextInt(random.nextBoolean() ? 4 : 21);
+        compare("sheet(" + width + ", " + height + ", " + cents + ", " + stock + ")",
+                () -> real.sheet(width, height, cents, stock), () -> model.sheet(width, height, cents, stock));
+    }
+
+    private void tellPart() {
+        int most = random.nextInt(3) == 0 ? longest : 1 + longest / 2;
+        int width = side(most);
+        int height = side(most);
+        int count = count();
+        boolean turns = random.nextBoolean();
+        compare("part(" + width + ", " + height + ", " + count + ", " + turns + ")",
+                () -> real.part(width, height, count, turns), () -> model.part(width, height, count, turns));
+    }
+
+    private void ask() {
+        int pick = random.nextInt(20);
+        if (pick < 4) {
+            int sheet = oneOf(model.cuts.size());
+            int what = oneOf(8);
+            compare("cut(" + sheet + ", " + what + ")", () -> real.cut(sheet, what), () -> model.cut(sheet, what));
+        } else if (pick < 14) {
+            askForPiece(pick < 9);
+        } else if (pick < 16) {
+            int part = oneOf(model.parts.size());
+            compare("left(" + part + ")", () -> real.left(part), () -> model.left(part));
+        } else if (pick < 17) {
+            int what = oneOf(3);
+            compare("all(" + what + ")", () -> real.all(what), () -> model.all(what));
+        } else if (pick < 18) {
+            compare("bound()", real::bound, model::bound);
+        } else {
+            askForWorth();
         }
     }
 
-    private static String compare(String where, String call, Call real, Call model) {
-        String got = outcome(real);
-        String want = outcome(model);
+    private void askForPiece(boolean taken) {
+        int sheet = oneOf(model.cuts.size());
+        int there = 0;
+        if (sheet >= 0 && sheet < model.cuts.size()) {
+            Cut cut = model.cuts.get(sheet);
+            there = taken ? cut.taken.size() : cut.rests.size();
+        }
+        int k = oneOf(there);
+        int what = oneOf(taken ? 5 : 4);
+        if (taken) {
+            compare("taken(" + sheet + ", " + k + ", " + what + ")",
+                    () -> real.taken(sheet, k, what), () -> model.taken(sheet, k, what));
+        } else {
+            compare("rest(" + sheet + ", " + k + ", " + what + ")",
+                    () -> real.rest(sheet, k, what), () -> model.rest(sheet, k, what));
+        }
+    }
+
+    private void askForWorth() {
+        int width = side(16);
+        int height = side(16);
+        int way = rarely() ? edge(0, 1) : random.nextInt(2);
+        int stages = rarely() ? edge(0, 3) : random.nextInt(4);
+        compare("worth(" + width + ", " + height + ", " + way + ", " + stages + ")",
+                () -> real.worth(width, height, way, stages), () -> model.worth(width, height, way, stages));
+    }
+
+    private boolean rarely() {
+        return random.nextInt(25) == 0;
+    }
+
+    /** The last number that is allowed or the first that is not, at one of the two ends. */
+    private int edge(int low, int high) {
+        int beyond = random.nextInt(2);
+        return random.nextBoolean() ? low - beyond : high + beyond;
+    }
+
+    private int side(int most) {
+        return rarely() ? edge(1, 16) : 1 + random.nextInt(most);
+    }
+
+    private int count() {
+        return rarely() ? edge(0, 50) : random.nextInt(random.nextBoolean() ? 5 : 51);
+    }
+
+    /** A place of a row, now and then one beside it. */
+    private int oneOf(int size) {
+        return rarely() || size == 0 ? edge(0, size - 1) : random.nextInt(size);
+    }
+
+    private void compare(String call, Answer.Call asReal, Answer.Call asModel) {
+        if (calls == CALLS) {
+            return;
+        }
+        calls++;
         compared++;
+        String got = Answer.of(asReal);
+        String want = Answer.of(asModel);
         if (!got.equals(want)) {
             wrong++;
-            System.out.println(where + ": " + call + " answered " + got + ", due is " + want);
+            System.out.println(told + " " + call + " answered " + got + ", due is " + want);
         }
-        return where + " " + call;
-    }
-
-    private static String outcome(Call call) {
-        try {
-            return Long.toString(call.answer());
-        } catch (RuntimeException e) {
-            return "throws." + e.getClass().getSimpleName();
+        if (call.startsWith("sheet") || call.startsWith("part") || call.startsWith("count") || call.startsWith("run")) {
+            told.append(' ').append(call);
         }
     }
 
@@ -238,7 +263,7 @@ public final class SheetTreesAgainstModel {
             if (!side(width) || !side(height) || way < 0 || way > 1 || stages < 0 || stages > 3) {
                 throw new IllegalArgumentException();
             }
-            return best(width, height, way, stages, counts(), new HashMap<>()).value;
+            return best(width, height, way, stages, counts(), noTrees()).value;
         }
 
         int run() {
@@ -252,7 +277,7 @@ public final class SheetTreesAgainstModel {
             while (cuts.size() < 20) {
                 Cut chosen = null;
                 int[] leftThen = null;
-                Map<String, Tree> known = new HashMap<>();
+                Tree[] known = noTrees();
                 for (int i = 0; i < stock.length; i++) {
                     if (stock[i] == 0) {
                         continue;
@@ -283,7 +308,7 @@ public final class SheetTreesAgainstModel {
             return counts;
         }
 
-        Cut cutOf(int sheet, int[] leftHere, Map<String, Tree> known) {
+        Cut cutOf(int sheet, int[] leftHere, Tree[] known) {
             int[] s = sheets.get(sheet);
             Tree way0 = best(s[0], s[1], 0, stages, left, known);
             Tree way1 = best(s[0], s[1], 1, stages, left, known);
@@ -295,9 +320,13 @@ public final class SheetTreesAgainstModel {
             return cut;
         }
 
-        Tree best(int w, int h, int way, int s, int[] wanted, Map<String, Tree> known) {
-            String key = w + "," + h + "," + way + "," + s;
-            Tree best = known.get(key);
+        static Tree[] noTrees() {
+            return new Tree[4 * 2 * 17 * 17];
+        }
+
+        Tree best(int w, int h, int way, int s, int[] wanted, Tree[] known) {
+            int key = ((s * 2 + way) * 17 + w) * 17 + h;
+            Tree best = known[key];
             if (best != null) {
                 return best;
             }
@@ -328,7 +357,7 @@ public final class SheetTreesAgainstModel {
                 }
                 best = tree.isBetterThan(best) ? tree : best;
             }
-            known.put(key, best);
+            known[key] = best;
             return best;
         }
 

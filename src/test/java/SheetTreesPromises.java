@@ -9,10 +9,6 @@ public final class SheetTreesPromises {
     private static int asked = 0;
     private static int wrong = 0;
 
-    private interface Call {
-        long answer();
-    }
-
     public static void main(String[] args) {
         due("NONE", () -> SheetTrees.NONE, -1);
         promise1Kerf();
@@ -511,24 +507,16 @@ public final class SheetTreesPromises {
         }
     }
 
-    private static void due(String call, Call answer, long want) {
+    private static void due(String call, Answer.Call answer, long want) {
         due(call, answer, Long.toString(want));
     }
 
-    private static void due(String call, Call answer, String want) {
-        String got = outcome(answer);
+    private static void due(String call, Answer.Call answer, String want) {
+        String got = Answer.of(answer);
         asked++;
         if (!got.equals(want)) {
             wrong++;
             System.out.println(call + " answered " + got + ", due is " + want);
-        }
-    }
-
-    private static String outcome(Call call) {
-        try {
-            return Long.toString(call.answer());
-        } catch (RuntimeException e) {
-            return "throws." + e.getClass().getSimpleName();
         }
     }
 }
