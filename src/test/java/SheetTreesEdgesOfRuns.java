@@ -367,6 +367,16 @@ public final class SheetTreesEdgesOfRuns {
                 rest 0 0 0 ! IndexOutOfBounds
                 left 0 = 0
                 """);
+        Edge.test("Nothing is cut: rests and parts of RUNS before take no room", """
+                new 0 2 1
+                sheet 15 15 1 20 = 0
+                part 8 8 50 false = 0
+                """ + "run = 20\n".repeat(490) + """
+                cut 19 6 = 2
+                rest 19 1 * = 8 0 7 15
+                taken 19 0 * = 0 0 7 8 8
+                left 0 = 30
+                """);
         Edge.test("A SHEET told later is cut by the next RUN", STRIP + """
                 sheet 4 3 1 1 = 1
                 run = 2

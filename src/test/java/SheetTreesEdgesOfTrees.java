@@ -165,6 +165,29 @@ public final class SheetTreesEdgesOfTrees {
                 worth 5 5 0 2 = 16
                 worth 5 5 0 3 = 17
                 """);
+        // With one stage more the first strip would hold both parts.
+        Edge.test("A first piece of way 0 is laid out with one stage less", """
+                new 0 2 1
+                sheet 5 5 1 1 = 0
+                part 3 3 1 false = 0
+                part 4 2 1 false = 1
+                run = 1
+                cut 0 * = 0 1 8 3 0 13 2 0
+                taken 0 0 * = 1 0 1 4 2
+                rest 0 0 * = 0 0 4 1
+                rest 0 1 * = 4 0 1 5
+                """);
+        Edge.test("A first piece of way 1 is laid out with one stage less", """
+                new 0 2 1
+                sheet 5 5 1 1 = 0
+                part 3 3 1 false = 0
+                part 2 4 1 false = 1
+                run = 1
+                cut 0 * = 0 1 8 3 1 13 2 0
+                taken 0 0 * = 1 1 0 2 4
+                rest 0 0 * = 0 0 1 4
+                rest 0 1 * = 0 4 5 1
+                """);
     }
 
     private static void bestByValueAndCuts() {
@@ -184,6 +207,19 @@ public final class SheetTreesEdgesOfTrees {
                 run = 1
                 cut 0 * = 0 3 6 2 0 2 0 0
                 taken 0 0 0 = 1
+                """);
+        Edge.test("Of the same VALUE the fewest CUTS, though with fewer PARTS and more WASTE", """
+                new 0 2 1
+                sheet 4 5 1 1 = 0
+                part 3 1 50 false = 0
+                part 2 3 50 false = 1
+                run = 1
+                cut 0 * = 0 3 15 4 1 12 2 0
+                taken 0 0 * = 0 1 0 3 1
+                taken 0 1 * = 1 0 1 2 3
+                taken 0 2 * = 1 2 1 2 3
+                rest 0 0 * = 0 0 1 1
+                rest 0 1 * = 0 4 4 1
                 """);
         Edge.test("The greatest VALUE, though copies are wanted for less of it", """
                 new 0 2 1
@@ -310,6 +346,17 @@ public final class SheetTreesEdgesOfTrees {
                 cut 0 * = 0 2 16 1 0 4 0 0
                 taken 0 0 * = 1 0 0 2 4
                 taken 0 1 * = 1 2 0 2 4
+                """);
+        Edge.test("Of two as good that of way 0, though way 1 has more PARTS and less WASTE", """
+                new 0 2 1
+                sheet 4 5 1 1 = 0
+                part 2 3 50 false = 0
+                part 3 4 50 false = 1
+                run = 1
+                cut 0 * = 0 1 12 2 0 8 2 0
+                taken 0 0 * = 1 0 1 3 4
+                rest 0 0 * = 0 0 3 1
+                rest 0 1 * = 3 0 1 5
                 """);
         Edge.test("Way 0 without a cut", """
                 new 0 3 1

@@ -1,4 +1,4 @@
-/** For each promise of the document: ordinary calls, the edges that it names, and wrong ones. */
+/** For each promise of the document: ordinary calls, and wrong ones. */
 public final class SheetTreesPromises {
     private static final int LOWEST = Integer.MIN_VALUE;
     private static final int HIGHEST = Integer.MAX_VALUE;
