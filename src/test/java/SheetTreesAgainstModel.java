@@ -67,7 +67,8 @@ public final class SheetTreesAgainstModel {
         } else {
             int part = oneOf(model.parts.size());
             int count = count();
-            compare("count(" + part + ", " + count + ")", () -> real.count(part, count), () -> model.count(part, count));
+            compare("count(" + part + ", " + count + ")",
+                    () -> real.count(part, count), () -> model.count(part, count));
         }
     }
 

@@ -500,7 +500,8 @@ public final class SheetTreesEdgesOfRuns {
         Edge.test("A SHEET was told since", STRIP + "sheet 1 1 1 0 = 1\n" + NOTHING_RUN + "run = 1\n" + STRIP_STANDS);
         Edge.test("A PART was told since", STRIP + "part 1 1 0 true = 1\n" + NOTHING_RUN + "run = 1\n" + STRIP_STANDS);
         Edge.test("A COUNT was told since", STRIP + "count 0 2 = 3\n" + NOTHING_RUN + "run = 1\nleft 0 = 0\n");
-        Edge.test("The same COUNT was told since", STRIP + "count 0 3 = 3\n" + NOTHING_RUN + "run = 1\n" + STRIP_STANDS);
+        Edge.test("The same COUNT was told since",
+                STRIP + "count 0 3 = 3\n" + NOTHING_RUN + "run = 1\n" + STRIP_STANDS);
         Edge.test("Told since, and a wrong number: that nothing was run is named first", STRIP + """
                 count 0 3 = 3
                 cut 1 8 ! IllegalState
