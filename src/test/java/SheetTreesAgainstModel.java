@@ -143,8 +143,11 @@ public final class SheetTreesAgainstModel {
         return random.nextInt(25) == 0;
     }
 
-    /** The last number that is allowed or the first that is not, at one of the two ends. */
+    /** The last number that is allowed, the first that is not, or one far off, at one of the two ends. */
     private int edge(int low, int high) {
+        if (random.nextInt(6) == 0) {
+            return random.nextBoolean() ? Integer.MIN_VALUE : Integer.MAX_VALUE;
+        }
         int beyond = random.nextInt(2);
         return random.nextBoolean() ? low - beyond : high + beyond;
     }

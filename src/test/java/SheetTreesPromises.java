@@ -33,6 +33,7 @@ public final class SheetTreesPromises {
         throwingChangesNothing();
         mostTaken();
         manyCalls();
+        exampleOfReadme();
         System.out.println(asked + " answers, " + wrong + " wrong");
         if (wrong != 0) {
             System.exit(1);
@@ -505,6 +506,19 @@ public final class SheetTreesPromises {
         for (int i = 0; i < 499; i++) {
             due("run again", x::run, first);
         }
+    }
+
+    private static void exampleOfReadme() {
+        SheetTrees trees = new SheetTrees(1, 2, 2);
+        due("readme: sheet", () -> trees.sheet(10, 6, 100, 2), 0);
+        due("readme: part", () -> trees.part(4, 3, 3, false), 0);
+        due("readme: turned part", () -> trees.part(6, 2, 2, true), 1);
+        due("readme: run", trees::run, 2);
+        due("readme: copies", () -> trees.cut(0, 1), 2);
+        due("readme: number", () -> trees.taken(0, 0, 0), 1);
+        due("readme: x", () -> trees.taken(0, 0, 1), 2);
+        due("readme: missing", () -> trees.left(0), 1);
+        due("readme: cents", () -> trees.all(0), 200);
     }
 
     private static void due(String call, Answer.Call answer, long want) {
